@@ -16,6 +16,7 @@ public final class FloorAbove {
     private static final int SORTS = 4;
     private static final int WAGES = 10;
     private static final int ALL = (1 << MOST) - 1;
+    private static final int[] DIGEST_MONTHS = {0, 6, 13, 23};
 
     private static final int PREPAID = 1, CARRIED = 2, ROPED = 3;
     private static final int BILL = 0, GIFT = 1, AUDIT = 2;
@@ -475,20 +476,13 @@ public final class FloorAbove {
         for (int what = 0; what <= 2; what++) {
             h = 31 * h + tenant(tenant, what);
         }
-        h = digestMonth(h, 0, tenant);
-        h = digestMonth(h, 6, tenant);
-        h = digestMonth(h, 13, tenant);
-        h = digestMonth(h, LAST, tenant);
+        for (int month : DIGEST_MONTHS) {
+            for (int what = 0; what <= 3; what++) {
+                h = 31 * h + at(month, tenant, what);
+            }
+        }
         for (int what = 0; what <= 3; what++) {
             h = 31 * h + ends(tenant, what);
-        }
-        return h;
-    }
-
-    private long digestMonth(long before, int month, int tenant) {
-        long h = before;
-        for (int what = 0; what <= 3; what++) {
-            h = 31 * h + at(month, tenant, what);
         }
         return h;
     }

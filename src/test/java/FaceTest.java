@@ -1,3 +1,5 @@
+import java.io.PrintWriter;
+import java.io.StringWriter;
 import java.lang.reflect.Constructor;
 import java.lang.reflect.Field;
 import java.lang.reflect.Method;
@@ -7,11 +9,16 @@ import java.nio.file.Path;
 import java.util.ArrayList;
 import java.util.Arrays;
 import java.util.Collections;
+import java.util.HashMap;
 import java.util.HashSet;
 import java.util.List;
+import java.util.Map;
+import java.util.Optional;
 import java.util.Set;
 import java.util.regex.Matcher;
 import java.util.regex.Pattern;
+import java.util.spi.ToolProvider;
+import java.util.stream.Stream;
 
 /** The public face is the document's, and the source keeps to what can be seen of LANGUAGE.md. */
 public final class FaceTest {
@@ -44,6 +51,7 @@ public final class FaceTest {
     String source = Files.readString(Path.of(args[0]));
     words(source.replaceAll("(?s)/\\*.*?\\*/", " ").replaceAll("//[^\n]*", " "));
     lengths(source);
+    depth();
     System.out.println(wrong == 0 ? "the face is as due" : wrong + " things are not as due");
     if (wrong != 0) System.exit(1);
   }
@@ -103,6 +111,56 @@ public final class FaceTest {
     while (m.find()) library.add(m.group());
     due(Set.of("Math.min", "Math.max", "Integer.bitCount", "Arrays.fill", "System.arraycopy")
         .containsAll(library), "the library: " + library);
+  }
+
+  /** Calls go at most eight deep, the library's own calls counted as one. */
+  private static void depth() throws Exception {
+    Optional<ToolProvider> javap = ToolProvider.findFirst("javap");
+    if (javap.isEmpty()) {
+      System.out.println("no javap: how deep calls go was not looked at");
+      return;
+    }
+    Path classes = Path.of(FloorAbove.class.getProtectionDomain().getCodeSource().getLocation().toURI());
+    List<String> args = new ArrayList<>(List.of("-c", "-p"));
+    try (Stream<Path> files = Files.list(classes)) {
+      files.filter(f -> f.getFileName().toString().startsWith("FloorAbove")).forEach(f -> args.add(f.toString()));
+    }
+    StringWriter out = new StringWriter();
+    PrintWriter to = new PrintWriter(out);
+    due(javap.get().run(to, to, args.toArray(new String[0])) == 0, "javap reads the classes");
+    Map<String, Set<String>> calls = calls(out.toString().split("\n"));
+    due(calls.containsKey("FloorAbove.digest"), "the calls of digest are seen");
+    for (String method : calls.keySet()) {
+      int deep = deep(method, calls, 20);
+      due(deep <= 8, method + " calls at most eight deep, not " + deep);
+    }
+  }
+
+  private static Map<String, Set<String>> calls(String[] lines) {
+    Pattern type = Pattern.compile("^(?:\\w+ )*class ([\\w$]+)");
+    Pattern head = Pattern.compile("^  \\S.*?([\\w$]+)\\(.*\\);$");
+    Pattern call = Pattern.compile("invoke.*// (?:Interface)?Method ([^:]+):");
+    Map<String, Set<String>> calls = new HashMap<>();
+    String in = "";
+    String method = "";
+    for (String line : lines) {
+      Matcher t = type.matcher(line);
+      Matcher h = head.matcher(line);
+      Matcher c = call.matcher(line);
+      if (t.find()) in = t.group(1);
+      else if (h.find()) calls.computeIfAbsent(method = in + "." + h.group(1), k -> new HashSet<>());
+      else if (c.find()) calls.get(method).add(c.group(1).contains(".") ? c.group(1) : in + "." + c.group(1));
+    }
+    return calls;
+  }
+
+  /** A class has no two methods of one name that call on, so that the name will do. */
+  private static int deep(String method, Map<String, Set<String>> calls, int most) {
+    int deepest = 0;
+    for (String each : calls.getOrDefault(method, Set.of())) {
+      if (most > 0) deepest = Math.max(deepest, deep(each, calls, most - 1));
+    }
+    return deepest + 1;
   }
 
   /** A method begins at a line that opens a brace behind its parameters and ends at its own depth. */
