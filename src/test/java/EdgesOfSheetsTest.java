@@ -59,6 +59,7 @@ public final class EdgesOfSheetsTest extends Edges {
     says("as longs that wrap", EdgesOfSheetsTest::digestWraps);
     says("houses(7, 6, 0 and 1)", EdgesOfSheetsTest::digestOfHouses);
     says("count() 0 to 7; fault();", EdgesOfSheetsTest::digestWithoutFinding);
+    says("An object is used for at most 512 calls after it has been made", EdgesOfSheetsTest::lastCall);
   }
 
   private static void refusing() {
@@ -547,6 +548,22 @@ public final class EdgesOfSheetsTest extends Edges {
     due("nor sheets", x.digest(), first);
     x.back();
     due("but events", x.digest() == first ? 1 : 0, 0);
+  }
+
+  /** 7 calls, 63 times 8, and the digest: 512. */
+  private static void lastCall() {
+    FloorAbove x = house("c30;c20");
+    for (int n = 0; n < 63; n++) {
+      due("event", x.event(BILL, n % 24, 0), 1);
+      due("left", x.at(23, 0, 1), 5);
+      due("seen", x.seen(n % 24, 0, 2), 1);
+      due("never", x.never(), 0);
+      due("sheet", x.sheet(n % 4, n % 3, n % 61), n % 61);
+      due("lose", x.lose(n % 4), n % 61);
+      due("forget", x.forget(), 1);
+      due("back", x.back(), 0);
+    }
+    due("the last call", x.digest(), house("c30;c20").digest());
   }
 
   // ---- refusals
